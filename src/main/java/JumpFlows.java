@@ -514,19 +514,15 @@ public final class JumpFlows {
             return !into.isEmpty();
         }
 
-        /** All that comes by a TICK; false: nothing does. */
+        /** All that comes of a BOX, which is not empty, by a TICK; false: nothing does. */
         boolean flow(Mode here, Box from, Box into) {
             into.copy(from);
-            // Slopes could make an empty BOX look as if it had numbers.
-            if (into.isEmpty()) {
-                return false;
-            }
             into.shift(here.slopes);
             into.meet(here.space);
             return !into.isEmpty();
         }
 
-        /** All that comes by a JUMP; false: nothing does. */
+        /** All that comes of a BOX, which is not empty, by a JUMP; false: nothing does. */
         boolean spring(Jump by, Box from, Box into) {
             into.copy(from);
             into.meet(by.gate);

@@ -166,6 +166,10 @@ public final class PromisesTest {
         is("BAD ahead of FULL", x.jump(0, 2), BAD);
         is("count", x.count(1), 12);
         is("kept at first", x.count(2), 2);
+        JumpFlows y = withModes(2);
+        is("no jump yet", y.many(1), 0);
+        y.jump(0, 1);
+        is("a jump", y.many(1), 1);
     }
 
     private void guards() {
@@ -280,6 +284,11 @@ public final class PromisesTest {
         is("its BOX stays", x.safe(), 1);
         x.box(1, 0, 0, 0);
         is("not safe", x.safe(), 0);
+        x.box(0, 0, -2, 3);
+        for (int v = -4; v <= 5; v++) {
+            x.box(1, 0, v, v);
+            is("WRONG at " + v, x.heap(0, 5), v >= -2 && v <= 3 ? 1 : 0);
+        }
     }
 
     private void mosts() {
@@ -295,6 +304,10 @@ public final class PromisesTest {
         is("least", x.side(0, 0, false), 0);
         is("greatest", x.side(0, 0, true), 7);
         is("worked", x.count(3), 5);
+        x.slope(0, 0, -2, -1);
+        is("joined below", x.side(0, 0, false), -5);
+        is("joined below", x.side(0, 0, true), 0);
+        x.slope(0, 0, 1, 2);
         is("what it was", x.most(2), 1);
         is("two HEAPS", x.count(2), 2);
     }
@@ -727,6 +740,11 @@ public final class PromisesTest {
         x.room(0, 1, 2, 2);
         is("not in the ROOM", x.run(0, 1, 0), STATE);
         is("in both", x.run(0, 2, 0), 1);
+        x.mode();
+        x.start(1);
+        is("the RUN's MODE stays", x.now(0), 0);
+        is("in another MODE", x.run(0, 1, 0), 1);
+        is("its MODE", x.now(0), 1);
     }
 
     private void ticks() {
@@ -752,6 +770,12 @@ public final class PromisesTest {
         is("steps", x.now(4), 3);
         x.room(0, 0, 6, 7);
         is("back into the ROOM", x.tick(1, 0, -4), 4);
+        x.slope(0, 1, 1, 3);
+        x.slope(0, 2, 2, 2);
+        is("each by its own", x.tick(1, 3, 2), 5);
+        is("number", x.now(1), 7);
+        is("number", x.now(2), 3);
+        is("number", x.now(3), -17 + 2);
     }
 
     private void leaps() {
