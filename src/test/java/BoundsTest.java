@@ -41,6 +41,7 @@ public final class BoundsTest {
         test.sheets();
         test.lays();
         test.draws();
+        test.drawsOfCells();
         test.counts();
         test.due.end("BoundsTest");
     }
@@ -134,7 +135,7 @@ public final class BoundsTest {
 
     private static final int[] NO_VARIABLE = {-1, 3, MIN, MAX};
 
-    /** The least number stands at a place, the greatest after it: -bound to bound each, the least at most the greatest. */
+    /** The least stands at a place, the greatest after it: -bound to bound each, the least at most the greatest. */
     private void sidesAreRefused(String name, Object[] given, int at, int bound) {
         Object[] wide = with(with(given, at, -bound), at + 1, bound);
         refuses(small, BAD, name, wide, at, -bound - 1, bound + 1, MIN, MAX);
@@ -560,6 +561,30 @@ public final class BoundsTest {
         refuses(small, BAD, "draw", row(0, 0, 3, 3, -1), 3, 3);
         refuses(small, -11, "draw", row(0, 0, 3, 0, -1), 2, 3);
         refuses(small, -13, "draw", row(0, 0, 0, 1, -1), 2, 0);
+    }
+
+    private void drawsOfCells() {
+        for (int sort = 0; sort < 3; sort++) {
+            int bound = sort == 1 ? 5 : 20;
+            for (int i = 0; i < 6; i++) {
+                due.part("promise 28: CELL " + i + " of sort " + sort);
+                int at = i;
+                twins(() -> laid(at, bound + 1)).refused(-20 - i, "draw", sort, 0, 2, 2, 0);
+                twins(() -> laid(at, -bound - 1)).refused(-20 - i, "draw", sort, 0, 2, 2, 0);
+                boolean isLeast = i % 2 == 0;
+                twins(() -> laid(at, isLeast ? -bound : bound)).taken(1, "draw", sort, 0, 2, 2, 0);
+                // The least ones are -2, the greatest 3: equal, and one beyond.
+                twins(() -> laid(at, isLeast ? 3 : -2)).taken(1, "draw", sort, 0, 2, 2, 0);
+                twins(() -> laid(at, isLeast ? 4 : -3)).refused(isLeast ? -21 - i : -20 - i, "draw", sort, 0, 2, 2, 0);
+            }
+        }
+    }
+
+    /** As small, with a CELL of the INTS told anew. */
+    private static JumpFlows laid(int i, int v) {
+        JumpFlows x = small();
+        x.lay(2, i, v);
+        return x;
     }
 
     private void counts() {
