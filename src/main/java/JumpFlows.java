@@ -504,6 +504,11 @@ public final class JumpFlows {
             return j >= 0 && j < jumpCount;
         }
 
+        /** For numbers that were tested when they were kept: the index is looked at all the same. */
+        Mode modeAt(int m) {
+            return modes[hasMode(m) ? m : 0];
+        }
+
         /** START's STATES; false: there are none. */
         boolean begin(Box into) {
             if (!hasMode(startMode)) {
@@ -515,7 +520,8 @@ public final class JumpFlows {
         }
 
         /** All that comes of a BOX, which is not empty, by a TICK; false: nothing does. */
-        boolean flow(Mode here, Box from, Box into) {
+        boolean flow(int m, Box from, Box into) {
+            Mode here = modeAt(m);
             into.copy(from);
             into.shift(here.slopes);
             into.meet(here.space);
@@ -535,7 +541,7 @@ public final class JumpFlows {
                     into.put(x, by.told.least(x), by.told.greatest(x));
                 }
             }
-            into.meet(modes[by.to].space);
+            into.meet(modeAt(by.to).space);
             return !into.isEmpty();
         }
 
@@ -596,6 +602,11 @@ public final class JumpFlows {
 
         boolean hasHeap(int h) {
             return h >= 0 && h < heapCount;
+        }
+
+        /** For numbers that were tested when they were kept: the index is looked at all the same. */
+        Heap heapAt(int h) {
+            return heaps[hasHeap(h) ? h : 0];
         }
 
         int verdict() {
@@ -692,12 +703,13 @@ public final class JumpFlows {
         }
 
         private void work(int h) {
-            int here = heaps[h].place;
+            Heap chosen = heapAt(h);
+            int here = chosen.place;
             works++;
             // WORKED from the outset, so that a join to this very HEAP can take it back.
-            heaps[h].worked = true;
-            from.copy(heaps[h].extent);
-            if (machine.flow(machine.modes[here], from, next)) {
+            chosen.worked = true;
+            from.copy(chosen.extent);
+            if (machine.flow(here, from, next)) {
                 take(here, h, 0);
             }
             for (int j = 0; j < machine.jumpCount && !spent; j++) {
@@ -725,14 +737,16 @@ public final class JumpFlows {
                 heaps[latest].extent.join(next);
                 heaps[latest].joined = true;
                 heaps[latest].worked = false;
-            } else if (heapCount >= ALL_HEAPS) {
-                spent = true;
             } else {
                 add(m, origin, how);
             }
         }
 
         private void add(int m, int origin, int how) {
+            if (heapCount >= ALL_HEAPS) {
+                spent = true;
+                return;
+            }
             Heap added = heaps[heapCount];
             added.extent.copy(next);
             added.place = m;
@@ -757,6 +771,7 @@ public final class JumpFlows {
     private static final class Trail {
         private final Machine machine;
         private final Search search;
+        /** The HEAPS from the goal back to START. */
         private final int[] path = new int[ALL_HEAPS];
         /** The numbers of STATE i stand from VARIABLES * i on. */
         private final int[] numbers = new int[VARIABLES * ALL_HEAPS];
@@ -775,7 +790,7 @@ public final class JumpFlows {
             }
             layPath(goal);
             for (int x = 0; x < VARIABLES; x++) {
-                int value = Math.max(search.heaps[goal].extent.least(x), machine.wrongBox.least(x));
+                int value = Math.max(search.heapAt(goal).extent.least(x), machine.wrongBox.least(x));
                 put(length - 1, x, value);
                 for (int i = length - 2; i >= 0; i--) {
                     value = leastBefore(i, x, value);
@@ -789,38 +804,41 @@ public final class JumpFlows {
             if (i < 0 || i >= length) {
                 return BAD_NUMBER;
             }
-            Heap there = search.heaps[path[i]];
-            if (what == 0) {
-                return there.place;
+            switch (what) {
+                case 0:
+                    return heapOf(i).place;
+                case 4:
+                    return heapOf(i).how;
+                default:
+                    return isVariable(what - 1) ? numbers[VARIABLES * i + what - 1] : BAD_NUMBER;
             }
-            return what == 4 ? there.how : numbers[VARIABLES * i + what - 1];
         }
 
         private void put(int i, int x, int value) {
-            if (i >= 0 && i < ALL_HEAPS) {
+            if (i >= 0 && i < ALL_HEAPS && isVariable(x)) {
                 numbers[VARIABLES * i + x] = value;
             }
         }
 
-        /** The HEAPS from START to the goal. */
         private void layPath(int goal) {
             length = 0;
             for (int at = goal; search.hasHeap(at) && length < ALL_HEAPS; at = search.heaps[at].origin) {
+                path[length] = at;
                 length++;
             }
-            int at = goal;
-            for (int i = length - 1; i >= 0; i--) {
-                path[i] = at;
-                at = search.heaps[at].origin;
-            }
+        }
+
+        /** The HEAP that STATE i is of. */
+        private Heap heapOf(int i) {
+            return search.heapAt(i >= 0 && i < length ? path[length - 1 - i] : NONE);
         }
 
         /** The least number from which the next STATE's can come; each VARIABLE's is its own matter. */
         private int leastBefore(int i, int x, int after) {
-            Heap there = search.heaps[path[i]];
-            int how = search.heaps[path[i + 1]].how;
+            Heap there = heapOf(i);
+            int how = heapOf(i + 1).how;
             if (how == 0) {
-                int steepest = machine.modes[there.place].slopes.greatest(x);
+                int steepest = machine.modeAt(there.place).slopes.greatest(x);
                 return Math.max(there.extent.least(x), after - steepest);
             }
             if (machine.hasJump(how - 1) && machine.jumps[how - 1].sets(x)) {
@@ -878,7 +896,7 @@ public final class JumpFlows {
 
         private int firstTickOut() {
             for (int m = 0; m < machine.modeCount; m++) {
-                if (enter(m) && machine.flow(machine.modes[m], inside, next) && !keeps(m)) {
+                if (enter(m) && machine.flow(m, inside, next) && !keeps(m)) {
                     return m;
                 }
             }
@@ -936,7 +954,7 @@ public final class JumpFlows {
         }
 
         boolean flowBy(int a, int b, int c) {
-            if (!going || !machine.modes[place].slopes.hasPoint(a, b, c)) {
+            if (!going || !machine.modeAt(place).slopes.hasPoint(a, b, c)) {
                 return false;
             }
             next.putPoint(point.least(0) + a, point.least(1) + b, point.least(2) + c);
@@ -967,7 +985,7 @@ public final class JumpFlows {
                 case 5:
                     return oneIf(machine.isMet(place, point));
                 case 6:
-                    return oneIf(!machine.flow(machine.modes[place], point, next));
+                    return oneIf(!machine.flow(place, point, next));
                 case 7:
                     return openJumps();
                 default:
@@ -976,7 +994,7 @@ public final class JumpFlows {
         }
 
         private boolean stepInto(int m) {
-            if (!machine.modes[m].space.covers(next)) {
+            if (!machine.modeAt(m).space.covers(next)) {
                 return false;
             }
             place = m;
@@ -1046,7 +1064,7 @@ public final class JumpFlows {
         }
 
         private boolean hasCell(int i) {
-            return i >= 0 && i < size;
+            return i >= 0 && i < size && i < ALL_CELLS;
         }
 
         private int lowestBits(int value) {
